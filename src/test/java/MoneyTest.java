@@ -7,6 +7,7 @@ public final class MoneyTest {
         reserve();
         reserveIsExactPartByPart();
         shortIn();
+        allTwelveYears();
         paymentAndRest();
         paymentIsTheLeast();
         paymentAndRestRefuse();
@@ -102,6 +103,19 @@ public final class MoneyTest {
         x.index(1, 500);
         x.index(2, 500);
         Check.due("never", x.shortIn(), NONE);
+    }
+
+    private static void allTwelveYears() {
+        CostYears x = new CostYears(12);
+        for (int part = 0; part < 12; part++) {
+            x.part(4, 0);
+            x.care(part, 0, 1);
+        }
+        x.money(12, 11);
+        Check.due("just enough for all years", x.reserve(11), 0);
+        Check.due("never", x.shortIn(), NONE);
+        x.money(11, 11);
+        Check.due("in the last of twelve years", x.shortIn(), 11);
     }
 
     private static void paymentAndRest() {

@@ -112,6 +112,15 @@ public final class WorksTest {
         x.join(0, 1, 1000000);
         Check.due("not below 0", x.lacks(7), 0);
         Check.due("nor for another year", x.lacks(15), 20);
+        for (int year = 0; year < 3; year += 2) {
+            CostYears y = new CostYears(3);
+            y.work(year, 5, 1, NONE);
+            y.work(year, 5, 1, NONE);
+            y.join(0, 1, 11);
+            y.choose();
+            Check.due("not below 0 in year " + year, y.costs(year), 0);
+            Check.due("nor its reserve above", y.reserve(2), 0);
+        }
         x.budget(1, 200);
         Check.due("with a budget", x.lacks(1), 0);
         x.budget(1, 199);
