@@ -4,10 +4,20 @@ final class Check {
         void run();
     }
 
+    interface Told {
+        void tell(int number);
+    }
+
     private static int asked = 0;
     private static int wrong = 0;
+    private static String sentence = "";
 
     private Check() {
+    }
+
+    /** The document's sentence that the next checks are about; a wrong answer is told with it. */
+    static void sentence(String text) {
+        sentence = "\"" + text + "\": ";
     }
 
     static void due(String call, long got, long want) {
@@ -21,6 +31,10 @@ final class Check {
         due(call, got ? 1 : 0, want ? 1 : 0);
     }
 
+    static void legal(String call, Call run) {
+        thrown(call, run, null);
+    }
+
     static void illegalArgument(String call, Call run) {
         thrown(call, run, IllegalArgumentException.class);
     }
@@ -29,22 +43,38 @@ final class Check {
         thrown(call, run, IllegalStateException.class);
     }
 
+    /** The last legal number on either side, and the first illegal one behind it and the last. */
+    static void bounds(String number, int least, int greatest, Told told) {
+        int[] legal = {least, least + (greatest - least) / 2, greatest};
+        int[] illegal = {least - 1, greatest + 1, Integer.MIN_VALUE, Integer.MAX_VALUE};
+        for (int value : legal) {
+            legal(number + " = " + value, () -> told.tell(value));
+        }
+        for (int value : illegal) {
+            illegalArgument(number + " = " + value, () -> told.tell(value));
+        }
+    }
+
     private static void thrown(String call, Call run, Class<? extends RuntimeException> want) {
         asked++;
+        Class<? extends RuntimeException> got = null;
         try {
             run.run();
         } catch (RuntimeException e) {
-            if (e.getClass() != want) {
-                tellWrong(call + " threw " + e + ", due is " + want.getName());
-            }
-            return;
+            got = e.getClass();
         }
-        tellWrong(call + " threw nothing, due is " + want.getName());
+        if (got != want) {
+            tellWrong(call + " threw " + nameOf(got) + ", due is " + nameOf(want));
+        }
+    }
+
+    private static String nameOf(Class<?> thrown) {
+        return thrown == null ? "nothing" : thrown.getName();
     }
 
     static void tellWrong(String text) {
         wrong++;
-        System.out.println(text);
+        System.out.println(sentence + text);
     }
 
     static void end() {

@@ -146,23 +146,27 @@ public final class MoneyTest {
     }
 
     private static void paymentIsTheLeast() {
-        CostYears x = new CostYears(1);
         int[] amounts = {1, 2, 7, 99, 10000, 123457, 999999999, 1000000000};
         int[] rates = {0, 1, 3, 250, 1999, 2000};
         for (int cents : amounts) {
             for (int rate : rates) {
                 for (int n = 1; n <= 30; n++) {
-                    String loan = cents + ", " + rate + ", " + n;
-                    int payment = x.payment(cents, rate, n);
-                    Check.due("enough: " + loan, restByYears(cents, rate, payment, n), 0);
-                    Check.due("a cent less is too little: " + loan,
-                        restByYears(cents, rate, payment - 1, n) > 0, true);
-                    for (int k = 0; k <= n; k++) {
-                        Check.due("rest: " + loan + ", " + k, x.rest(cents, rate, n, k),
-                            restByYears(cents, rate, payment, k));
-                    }
+                    paymentIsTheLeast(cents, rate, n);
                 }
             }
+        }
+    }
+
+    private static void paymentIsTheLeast(int cents, int rate, int n) {
+        CostYears x = new CostYears(1);
+        String loan = cents + ", " + rate + ", " + n;
+        int payment = x.payment(cents, rate, n);
+        Check.due("enough: " + loan, restByYears(cents, rate, payment, n), 0);
+        Check.due("a cent less is too little: " + loan,
+            restByYears(cents, rate, payment - 1, n) > 0, true);
+        for (int k = 0; k <= n; k++) {
+            Check.due("rest: " + loan + ", " + k, x.rest(cents, rate, n, k),
+                restByYears(cents, rate, payment, k));
         }
     }
 
