@@ -197,6 +197,9 @@ public final class EdgesOfChoicesTest {
         chosenAre("neither fits", x, 2, 0, 0);
         x.budget(0, 1);
         chosenAre("it alone fits, for nothing", x, 2, 0, 0);
+        x.index(0, 999);
+        x.budget(0, 0);
+        chosenAre("it alone fits, for nothing, and costs nothing", x, 2, 0, 0);
     }
 
     private static void choosesTheMost() {

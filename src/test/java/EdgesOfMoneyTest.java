@@ -75,8 +75,8 @@ public final class EdgesOfMoneyTest {
     }
 
     private static void whatWasThereBefore() {
-        Check.sentence("Terms: what was there before (the BEGINNING in year 0, else that of the year"
-            + " before)");
+        Check.sentence("Terms: what was there before (the BEGINNING in year 0, else that of the"
+            + " year before)");
         CostYears x = new CostYears(12);
         x.money(100, 10);
         for (int year = 11; year >= 0; year--) {

@@ -23,9 +23,15 @@ public final class FaceTest {
         "boolean chosen(int) A", "int costs(int) A", "int lacks(int) ", "void money(int, int) A",
         "long reserve(int) A", "int shortIn() ", "int payment(int, int, int) A",
         "int rest(int, int, int, int) A"};
+    // What LANGUAGE.md leaves out, and catches that would answer a call by the machine's own throw.
     private static final String[] FORBIDDEN = {
-        "\\btry\\b", "\\bcatch\\b", "\\bfinally\\b", "\\bsynchronized\\b", "\\bassert\\b", "->",
-        "::", "\\bpackage\\b", "\\bdouble\\b", "Exact\\(", "\\bstatic \\{", "\\bvar\\b"};
+        "\\bfinally\\b", "\\bsynchronized\\b", "\\bassert\\b", "::", "\\bpackage\\b",
+        "Exact\\(", "\\bstatic \\{", "\\bgetMessage\\b", "\\bRandom\\b", "\\bThread\\b",
+        "\\bSystem\\.(?!arraycopy)", "\\bNullPointerException\\b", "\\bClassCastException\\b",
+        "\\bArrayIndexOutOfBoundsException\\b", "\\bNegativeArraySizeException\\b",
+        "\\bArrayStoreException\\b", "\\bThrowable\\b", "\\bException\\b"};
+    private static final Pattern IMPORTS = Pattern.compile(
+        "import java\\.util\\.(Arrays|ArrayList|List|Iterator|NoSuchElementException);");
 
     public static void main(String[] args) throws IOException {
         methods();
@@ -71,6 +77,9 @@ public final class FaceTest {
         Set<String> due = new TreeSet<>(Arrays.asList(FACE));
         expect("the face is " + due + ", not " + shown, shown.equals(due));
         for (Method method : CostYears.class.getDeclaredMethods()) {
+            if (method.isSynthetic()) {
+                continue;
+            }
             boolean isPrivate = Modifier.isPrivate(method.getModifiers());
             expect(method + " is public or private",
                 isPrivate || Modifier.isPublic(method.getModifiers()));
@@ -88,6 +97,9 @@ public final class FaceTest {
             && Arrays.equals(constructors[0].getParameterTypes(), new Class<?>[] {int.class})
             && constructors[0].getExceptionTypes().length == 0);
         for (Field field : CostYears.class.getDeclaredFields()) {
+            if (field.isSynthetic()) {
+                continue;
+            }
             boolean isNone = field.getName().equals("NONE");
             expect(field + " is private, but for NONE",
                 isNone ? Modifier.isPublic(field.getModifiers())
@@ -104,7 +116,7 @@ public final class FaceTest {
                 && !Modifier.isProtected(kind.getModifiers()));
             for (Field field : kind.getDeclaredFields()) {
                 expect(field + ": static ones are final", !Modifier.isStatic(field.getModifiers())
-                    || Modifier.isFinal(field.getModifiers()));
+                    || field.isSynthetic() || Modifier.isFinal(field.getModifiers()));
             }
         }
     }
@@ -118,7 +130,9 @@ public final class FaceTest {
         }
         for (String line : code.split("\n")) {
             expect("an import that is listed: " + line,
-                !line.startsWith("import ") || line.equals("import java.util.Arrays;"));
+                !line.startsWith("import ") || IMPORTS.matcher(line).matches());
+            expect("no lambda: " + line, !line.contains("->") || line.contains("case ")
+                || line.contains("default "));
         }
     }
 }

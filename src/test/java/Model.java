@@ -157,7 +157,8 @@ final class Model {
             for (int other = 0; other < p.states; other++) {
                 if (other != state) {
                     stays -= p.moves[state][other];
-                    sum = sum.add(before[other].multiply(BigInteger.valueOf(p.moves[other][state])));
+                    BigInteger going = BigInteger.valueOf(p.moves[other][state]);
+                    sum = sum.add(before[other].multiply(going));
                 }
             }
             shares[state] = sum.add(before[state].multiply(BigInteger.valueOf(stays)));
