@@ -19,6 +19,7 @@ public final class EdgesOfChoicesTest {
         lacksAtTheBudget();
         lacksOfBitsAbove();
         lacksNoneOrNothing();
+        lacksNoneOrAnAmount();
         lacksTheMost();
         lacksChangesNothing();
         Check.end();
@@ -376,6 +377,29 @@ public final class EdgesOfChoicesTest {
             boolean clash = (set & 9) == 9;
             boolean lack = (set & 6) == 4;
             Check.due("lacks(" + set + ")", x.lacks(set), clash || lack ? NONE : 0);
+        }
+    }
+
+    private static void lacksNoneOrAnAmount() {
+        Check.sentence("Terms: it is chosen only with that, and not in an earlier year than that;"
+            + " promise 17: NONE if some clash, or lack what they need");
+        for (int year = 0; year < 12; year++) {
+            for (int needed = 0; needed < 12; needed++) {
+                CostYears x = withWorks(12, new int[][] {{year, 30, 1}, {needed, 50, 1}});
+                String told = "in year " + year + ", what it needs in year " + needed + ": ";
+                Check.due(told + "needing nothing", x.lacks(3), 80);
+                x.needs(0, 1);
+                Check.due(told + "both", x.lacks(3), year < needed ? NONE : 80);
+                Check.due(told + "alone", x.lacks(1), NONE);
+                Check.due(told + "the other", x.lacks(2), 50);
+                x.budget(needed, 1000);
+                x.budget(year, 1000);
+                Check.due(told + "both, with budgets", x.lacks(3), year < needed ? NONE : 0);
+                chosenAre(told + "as it is chosen", x, 2, year < needed ? 1 : 2,
+                    year < needed ? 2 : 3);
+                x.clash(0, 1, true);
+                Check.due(told + "both, clashing", x.lacks(3), NONE);
+            }
         }
     }
 

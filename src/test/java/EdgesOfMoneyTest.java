@@ -13,6 +13,7 @@ public final class EdgesOfMoneyTest {
         lessWhatWorksCost();
         lessWhatCareCosts();
         careRenewed();
+        reserveByWhatIsToldNow();
         careOfAsManyAsMayBe();
         theMostAndTheLeast();
         shortBelow0();
@@ -159,6 +160,43 @@ public final class EdgesOfMoneyTest {
         x.choose();
         Check.due("renewed in the last year", x.reserve(3), -402 - 50);
         Check.due("as before in the year before", x.reserve(2), -402);
+    }
+
+    private static void reserveByWhatIsToldNow() {
+        Check.sentence("Terms: less what the works of the choice made last cost, less what the care"
+            + " costs, by what is told now");
+        CostYears x = new CostYears(3);
+        x.part(2, 0);
+        x.moves(0, 0, 1, 8);
+        x.care(0, 1, 100);
+        x.work(1, 30, 1, 0);
+        x.work(1, 30, 1, NONE);
+        x.budget(1, 60);
+        x.money(1000, 0);
+        x.choose();
+        Check.due("1000 - 60 - 50", x.reserve(2), 890);
+        x.index(1, 1500);
+        Check.due("1000 - 90 - 50", x.reserve(2), 860);
+        x.index(2, 500);
+        Check.due("1000 - 90 - 25", x.reserve(2), 885);
+        x.join(1, 0, 40);
+        Check.due("1000 - 50 - 25", x.reserve(2), 925);
+        x.moves(0, 0, 1, 16);
+        Check.due("1000 - 50 - 50", x.reserve(2), 900);
+        x.care(0, 0, 7);
+        Check.due("1000 - 7 - 50 - 10 - 50", x.reserve(2), 883);
+        x.clash(0, 1, true);
+        x.needs(1, 0);
+        x.budget(1, 0);
+        Check.due("the choice made last stays", x.reserve(2), 883);
+        x.work(0, 1, 9, 0);
+        Check.due("a work told now is not chosen", x.reserve(2), 883);
+        x.part(2, 1);
+        x.care(1, 1, 20);
+        Check.due("a part told now has care: 20 + 30 + 10 less", x.reserve(2), 823);
+        Check.due("in year 0", x.reserve(0), 973);
+        x.choose();
+        Check.due("chosen anew: 27, 150 + 30, 50 + 10 less", x.reserve(2), 733);
     }
 
     private static void careOfAsManyAsMayBe() {

@@ -14,6 +14,7 @@ public final class EdgesOfPartsTest {
         notFromAStateToItself();
         movesAnswersHowManyDid();
         whatIsLeftStays();
+        goesFromEachYearToTheNext();
         careIsWithin();
         careIs0AtFirst();
         careAnswersWhatItWas();
@@ -21,10 +22,12 @@ public final class EdgesOfPartsTest {
         beginsWhereRenewed();
         renewedMoreThanOnce();
         notRenewedByOthers();
+        wornByWhatIsToldNow();
         sharesAreAllTogether();
         sharesAtTheMost();
         careIsRoundedDown();
         careCosts();
+        careIsRoundedDownTwice();
         mostOfAlikeOnes();
         mostAtTheEdges();
         Check.end();
@@ -252,6 +255,53 @@ public final class EdgesOfPartsTest {
         Check.due("7 stay", x.share(0, 2, 1), 7);
     }
 
+    /** The sum over all ways from a state to another in so many years, each way's product. */
+    private static long allWays(int[][] going, int from, int to, int years) {
+        if (years == 0) {
+            return from == to ? 1 : 0;
+        }
+        long sum = 0;
+        for (int next = 0; next < going.length; next++) {
+            if (going[from][next] > 0) {
+                sum += going[from][next] * allWays(going, next, to, years - 1);
+            }
+        }
+        return sum;
+    }
+
+    private static void goesFromEachYearToTheNext() {
+        Check.sentence("Terms: from a state a share of so many SIXTEENTHS goes to another state"
+            + " from each year to the next");
+        int[][][] rows = {
+            {{13, 3}, {0, 16}}, {{9, 7}, {2, 14}}, {{0, 16}, {11, 5}},
+            {{10, 5, 1}, {0, 12, 4}, {0, 0, 16}}, {{1, 7, 8}, {3, 11, 2}, {15, 0, 1}},
+            {{4, 1, 9, 2}, {0, 3, 6, 7}, {5, 5, 5, 1}, {2, 13, 0, 1}},
+            {{12, 4, 0, 0}, {0, 12, 4, 0}, {0, 0, 12, 4}, {0, 0, 0, 16}}};
+        for (int[][] going : rows) {
+            for (int start = 0; start < going.length; start++) {
+                sharesAre(going, start);
+            }
+        }
+    }
+
+    private static void sharesAre(int[][] going, int start) {
+        CostYears x = withPart(12, going.length, start);
+        for (int from = 0; from < going.length; from++) {
+            for (int to = 0; to < going.length; to++) {
+                if (from != to) {
+                    x.moves(0, from, to, going[from][to]);
+                }
+            }
+        }
+        for (int year = 0; year < 9; year++) {
+            for (int state = 0; state < going.length; state++) {
+                Check.due("of " + going.length + " states from " + start + " to " + state
+                    + " in year " + year, x.share(0, state, year),
+                    allWays(going, start, state, year));
+            }
+        }
+    }
+
     private static void careIsWithin() {
         Check.sentence("Terms: CARE takes cents a year (0 .. 1000)");
         for (int state = 0; state < 4; state++) {
@@ -404,6 +454,30 @@ public final class EdgesOfPartsTest {
         Check.due("most, no longer", x.most(0, 6), 0);
     }
 
+    private static void wornByWhatIsToldNow() {
+        Check.sentence("Promises 7 to 9: renewed by the choice made last, worn by what is told");
+        CostYears x = renewedIn(0, 3);
+        x.care(0, 1, 160);
+        Check.due("most, a year behind it", x.most(0, 4), 1);
+        Check.due("cares, a year behind it", x.cares(0, 4), 120);
+        x.moves(0, 1, 0, 15);
+        Check.due("share, told anew", x.share(0, 1, 4), 1);
+        Check.due("share, told anew, ahead of it", x.share(0, 1, 2), 1);
+        Check.due("share, told anew, ahead of it", x.share(0, 0, 2), 255);
+        Check.due("share, still renewed", x.share(0, 1, 3), 1);
+        Check.due("share, still renewed", x.share(0, 0, 3), 0);
+        Check.due("most, told anew", x.most(0, 4), 0);
+        Check.due("cares, told anew", x.cares(0, 4), 10);
+        x.care(0, 0, 16);
+        Check.due("care is told anew", x.cares(0, 4), 25);
+        x.index(4, 2000);
+        Check.due("the index is told anew", x.cares(0, 4), 50);
+        Check.due("that of another year is not", x.cares(0, 5), 16);
+        x.moves(0, 1, 0, 0);
+        Check.due("nothing goes any more", x.share(0, 1, 11), 1L << 32);
+        Check.due("the part that is not renewed is as it was", x.share(1, 1, 4), powerOf12(4));
+    }
+
     private static void sharesAreAllTogether() {
         Check.sentence("Terms: one for each state, all together 16^k");
         for (int states = 2; states <= 4; states++) {
@@ -493,6 +567,28 @@ public final class EdgesOfPartsTest {
         Check.due("1.5 is 1 ahead of the index", x.cares(0, 1), 2);
         x.index(1, 999);
         Check.due("1 at 999 is 0", x.cares(0, 1), 0);
+    }
+
+    private static void careIsRoundedDownTwice() {
+        Check.sentence("Terms: its CARE is rounded down (for the year's INDEX it costs more or"
+            + " less); an amount of cents COSTS amount * INDEX / 1000, rounded down");
+        // Sixteenths that go to state 1, its care, the index, the cost. Rounded down once at the
+        // end all of these would cost a cent more.
+        int[][] goingCareIndexCost = {
+            {8, 3, 2000, 2}, {8, 3, 1500, 1}, {8, 3, 1999, 1}, {8, 1, 2000, 0},
+            {15, 1000, 2000, 1874}, {15, 1000, 1999, 1873}, {15, 999, 1800, 1684},
+            {1, 31, 1033, 1}, {5, 991, 970, 299}};
+        for (int[] row : goingCareIndexCost) {
+            CostYears x = withPart(2, 2, 0);
+            x.moves(0, 0, 1, row[0]);
+            x.care(0, 1, row[1]);
+            x.index(1, row[2]);
+            String told = java.util.Arrays.toString(row);
+            long once = (long) row[0] * row[1] * row[2] / 16000;
+            Check.due(told + " tells the two readings apart", once, row[3] + 1);
+            Check.due(told + ": cares(0, 1)", x.cares(0, 1), row[3]);
+            Check.due(told + ": reserve(1)", x.reserve(1), -row[3]);
+        }
     }
 
     private static void mostOfAlikeOnes() {

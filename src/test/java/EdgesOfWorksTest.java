@@ -27,6 +27,7 @@ public final class EdgesOfWorksTest {
         needsAnswersWhichItNeeded();
         chosenOnlyWithThat();
         notInAnEarlierYear();
+        needsOneAtATime();
         needsInAChainAndARing();
         needsOneThatClashes();
         Check.end();
@@ -503,6 +504,25 @@ public final class EdgesOfWorksTest {
             Check.due("in year " + year + " choose()", x.choose(), may ? 3 : 1);
             Check.due("in year " + year, choice(x, 2), may ? 3 : 1);
         }
+    }
+
+    private static void needsOneAtATime() {
+        Check.sentence("Terms: one may NEED another one");
+        CostYears x = withWorks(4);
+        x.needs(0, 1);
+        x.needs(0, 2);
+        Check.due("it needs 2", x.lacks(5), 0);
+        Check.due("and 1 no longer", x.lacks(3), NONE);
+        x.needs(3, 2);
+        Check.due("two may need the same one", x.lacks(13), 0);
+        Check.due("and lack it", x.lacks(9), NONE);
+        x.clash(1, 2, true);
+        Check.due("the needed one is worth more than the other", x.choose(), 3);
+        Check.due("all but 1", choice(x, 4), 13);
+        x.needs(0, 1);
+        x.needs(3, 1);
+        Check.due("told anew", x.choose(), 3);
+        Check.due("all but 2", choice(x, 4), 11);
     }
 
     private static void needsInAChainAndARing() {

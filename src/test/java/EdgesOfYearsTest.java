@@ -18,6 +18,7 @@ public final class EdgesOfYearsTest {
         budgetIs0AtFirst();
         budgetIsWithin();
         budgetAnswersWhatItWas();
+        noneIsMinus1();
         upTo512Calls();
         Check.end();
     }
@@ -269,6 +270,29 @@ public final class EdgesOfYearsTest {
             Check.due("the same once more, " + year, x.budget(year, year), year);
             Check.due("and again, " + year, x.budget(year, 0), year);
         }
+    }
+
+    private static void noneIsMinus1() {
+        Check.sentence("Terms: the constants: NONE = -1: there is none");
+        CostYears x = new CostYears(2);
+        x.part(2, 0);
+        x.moves(0, 0, 1, 16);
+        x.budget(1, 10);
+        Check.due("the constant", CostYears.NONE, -1);
+        Check.due("no year is short", x.shortIn(), -1);
+        Check.due("work(1, 1, 1, -1)", x.work(1, 1, 1, -1), 0);
+        Check.due("work(1, 1, 1, 0)", x.work(1, 1, 1, 0), 1);
+        Check.due("work(1, 1, 1, -1)", x.work(1, 1, 1, -1), 2);
+        x.clash(1, 0, true);
+        x.clash(1, 2, true);
+        Check.due("choose()", x.choose(), 2);
+        Check.due("none of the chosen renews the part", x.share(0, 1, 1), 16);
+        Check.due("it needed none", x.needs(0, 2), -1);
+        Check.due("it needs none", x.needs(0, -1), 2);
+        Check.due("it needed none", x.needs(0, -1), -1);
+        Check.due("clashing ones", x.lacks(3), -1);
+        x.needs(0, 2);
+        Check.due("one that lacks what it needs", x.lacks(1), -1);
     }
 
     private static void upTo512Calls() {

@@ -33,9 +33,10 @@ public final class FaceTest {
     private static final Pattern IMPORTS = Pattern.compile(
         "import java\\.util\\.(Arrays|ArrayList|List|Iterator|NoSuchElementException);");
 
-    public static void main(String[] args) throws IOException {
+    public static void main(String[] args) throws IOException, ReflectiveOperationException {
         methods();
         otherMembers();
+        none();
         insideClasses();
         source();
         Check.end();
@@ -105,6 +106,14 @@ public final class FaceTest {
                 isNone ? Modifier.isPublic(field.getModifiers())
                     : Modifier.isPrivate(field.getModifiers()));
         }
+    }
+
+    /** Asked of the class itself, as the compiler writes a constant's value into its users. */
+    private static void none() throws ReflectiveOperationException {
+        Field none = CostYears.class.getField("NONE");
+        expect("NONE is an int, static and final", none.getType() == int.class
+            && Modifier.isStatic(none.getModifiers()) && Modifier.isFinal(none.getModifiers()));
+        Check.due("NONE", none.getInt(null), -1);
     }
 
     private static void insideClasses() {

@@ -10,6 +10,10 @@ enum House {
     SOME(4, new int[] {2, 3, 4}, 4),
     FULL(12, new int[] {4, 3, 2, 4, 2, 3, 2, 2, 3, 4, 2, 2}, 10);
 
+    // What is asked in a round: what was told; what follows from it, chosen anew or not.
+    static final int TOLD = 0;
+    static final int CHOSEN_ANEW = 1;
+    static final int AS_CHOSEN = 2;
     static final int ROUNDS = 3;
     private static final int NONE = CostYears.NONE;
     private static final int MOST_CALLS = 512;
@@ -18,7 +22,7 @@ enum House {
     private static final long ANOTHER = Long.MIN_VALUE + 2;
 
     interface Ask {
-        long ask();
+        long of(CostYears x);
     }
 
     final int years;
@@ -84,107 +88,115 @@ enum House {
     /** All answers of one round, on an object that is asked nothing else behind it. */
     List<Long> answers(CostYears x, int round) {
         List<Long> answers = new ArrayList<>();
-        if (round == 0) {
-            askWhatIsTold(x, answers);
-        } else {
-            if (round == 1) {
-                add(answers, () -> x.choose());
-            }
-            askWhatFollows(x, answers);
-        }
-        // Building the greatest one takes 140 calls, the refused calls ahead of this a few.
-        if (answers.size() > MOST_CALLS - 160) {
-            throw new IllegalStateException("too many calls: " + answers.size());
+        for (Ask ask : asks(round)) {
+            answers.add(answer(x, ask));
         }
         return answers;
     }
 
-    private static void add(List<Long> answers, Ask ask) {
-        long answer;
+    static long answer(CostYears x, Ask ask) {
         try {
-            answer = ask.ask();
+            return ask.of(x);
         } catch (IllegalArgumentException e) {
-            answer = ILLEGAL_ARGUMENT;
+            return ILLEGAL_ARGUMENT;
         } catch (IllegalStateException e) {
-            answer = ILLEGAL_STATE;
+            return ILLEGAL_STATE;
         } catch (RuntimeException e) {
-            answer = ANOTHER;
+            return ANOTHER;
         }
-        answers.add(answer);
+    }
+
+    List<Ask> asks(int round) {
+        List<Ask> asks = new ArrayList<>();
+        if (round == TOLD) {
+            askWhatIsTold(asks);
+        } else {
+            if (round == CHOSEN_ANEW) {
+                asks.add(x -> x.choose());
+            }
+            askWhatFollows(asks);
+        }
+        // Building the greatest one takes 140 calls, what else is called ahead of this a few.
+        if (asks.size() > MOST_CALLS - 160) {
+            throw new IllegalStateException("too many calls: " + asks.size());
+        }
+        return asks;
     }
 
     /** Tells all anew, for each call answers what was told before. */
-    private void askWhatIsTold(CostYears x, List<Long> answers) {
+    private void askWhatIsTold(List<Ask> asks) {
         for (int at = 0; at < years; at++) {
             int year = at;
-            add(answers, () -> x.index(year, 1000));
-            add(answers, () -> x.budget(year, 0));
+            asks.add(x -> x.index(year, 1000));
+            asks.add(x -> x.budget(year, 0));
         }
         for (int part = 0; part < parts(); part++) {
-            askOfPart(x, part, answers);
+            askOfPart(part, asks);
         }
         for (int a = 0; a < works; a++) {
             int work = a;
-            add(answers, () -> x.needs(work, NONE));
+            asks.add(x -> x.needs(work, NONE));
             for (int b = 0; b < a; b++) {
                 int other = b;
-                add(answers, () -> x.join(work, other, 0));
-                add(answers, () -> x.clash(work, other, false) ? 1 : 0);
+                asks.add(x -> x.join(work, other, 0));
+                asks.add(x -> x.clash(work, other, false) ? 1 : 0);
             }
         }
-        add(answers, () -> x.part(2, 0));
-        add(answers, () -> x.work(0, 1, 1, NONE));
+        asks.add(x -> x.part(2, 0));
+        asks.add(x -> x.work(0, 1, 1, NONE));
     }
 
-    private void askOfPart(CostYears x, int part, List<Long> answers) {
+    private void askOfPart(int part, List<Ask> asks) {
         for (int a = 0; a < states[part]; a++) {
             int from = a;
-            add(answers, () -> x.care(part, from, 0));
+            asks.add(x -> x.care(part, from, 0));
             for (int b = 0; b < states[part]; b++) {
                 int to = b;
                 if (from != to) {
-                    add(answers, () -> x.moves(part, from, to, 0));
+                    asks.add(x -> x.moves(part, from, to, 0));
                 }
             }
         }
-        add(answers, () -> x.share(part, states[part], 0));
+        asks.add(x -> x.share(part, states[part], 0));
     }
 
-    private void askWhatFollows(CostYears x, List<Long> answers) {
+    private void askWhatFollows(List<Ask> asks) {
         for (int part = 0; part < parts(); part++) {
-            askOfWear(x, part, answers);
+            askOfWear(part, asks);
         }
-        add(answers, () -> x.most(parts(), 0));
+        asks.add(x -> x.most(parts(), 0));
         for (int at = 0; at < years; at++) {
             int year = at;
-            add(answers, () -> x.costs(year));
-            add(answers, () -> x.reserve(year));
+            asks.add(x -> x.costs(year));
+            asks.add(x -> x.reserve(year));
         }
-        add(answers, () -> x.shortIn());
+        asks.add(x -> x.shortIn());
         for (int a = 0; a < works; a++) {
             int work = a;
-            add(answers, () -> x.chosen(work) ? 1 : 0);
+            asks.add(x -> x.chosen(work) ? 1 : 0);
             for (int b = 0; b <= a; b++) {
                 int set = 1 << a | 1 << b;
-                add(answers, () -> x.lacks(set));
+                asks.add(x -> x.lacks(set));
             }
         }
-        add(answers, () -> x.lacks(-1));
-        add(answers, () -> x.chosen(works) ? 1 : 0);
+        asks.add(x -> x.lacks(-1));
+        asks.add(x -> x.chosen(works) ? 1 : 0);
+        asks.add(x -> x.payment(123456, 321, 7));
+        asks.add(x -> x.rest(123456, 321, 7, 3));
     }
 
-    private void askOfWear(CostYears x, int part, List<Long> answers) {
+    private void askOfWear(int part, List<Ask> asks) {
         int last = years - 1;
         for (int at = 0; at < states[part]; at++) {
             int state = at;
-            add(answers, () -> x.share(part, state, 0));
-            add(answers, () -> x.share(part, state, 1));
-            add(answers, () -> x.share(part, state, last));
+            asks.add(x -> x.share(part, state, 0));
+            asks.add(x -> x.share(part, state, 1));
+            asks.add(x -> x.share(part, state, last));
         }
-        add(answers, () -> x.cares(part, 0));
-        add(answers, () -> x.cares(part, last));
-        add(answers, () -> x.most(part, 0));
-        add(answers, () -> x.most(part, 2));
-        add(answers, () -> x.most(part, last));
+        asks.add(x -> x.cares(part, 0));
+        asks.add(x -> x.cares(part, last));
+        asks.add(x -> x.most(part, 0));
+        asks.add(x -> x.most(part, 2));
+        asks.add(x -> x.most(part, last));
     }
 }
